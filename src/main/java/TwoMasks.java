@@ -62,8 +62,7 @@ public final class TwoMasks {
         }
         history.remember(now);
         now.putNew(x, y, x2, y2);
-        now.freeAll();
-        layAnew();
+        layFree();
         return now.shapes - 1;
     }
 
@@ -73,8 +72,7 @@ public final class TwoMasks {
         }
         history.remember(now);
         now.takeAway(s);
-        now.freeAll();
-        layAnew();
+        layFree();
         return now.shapes;
     }
 
@@ -85,8 +83,7 @@ public final class TwoMasks {
         }
         history.remember(now);
         now.step(s, dx, dy);
-        now.freeAll();
-        layAnew();
+        layFree();
         return now.areaOf(s);
     }
 
@@ -97,8 +94,7 @@ public final class TwoMasks {
         }
         history.remember(now);
         now.cuts[s] |= 1 << x;
-        now.freeAll();
-        layAnew();
+        layFree();
         return pieces.count;
     }
 
@@ -109,8 +105,7 @@ public final class TwoMasks {
         }
         history.remember(now);
         now.cuts[s] &= ~(1 << x);
-        now.freeAll();
-        layAnew();
+        layFree();
         return pieces.count;
     }
 
@@ -144,8 +139,7 @@ public final class TwoMasks {
     public int turn() {
         history.remember(now);
         now.mirror();
-        now.freeAll();
-        layAnew();
+        layFree();
         return bestNow().cost;
     }
 
@@ -169,8 +163,7 @@ public final class TwoMasks {
                 now.putNew(x, y, x2, y2);
             }
         }
-        now.freeAll();
-        layAnew();
+        layFree();
         return now.shapes;
     }
 
@@ -339,6 +332,12 @@ public final class TwoMasks {
     }
 
     // ---- what the calls share
+
+    /** Pieces may have other numbers now, so none stays FIXED. */
+    private void layFree() {
+        now.freeAll();
+        layAnew();
+    }
 
     private void layAnew() {
         pieces.lay(now);
