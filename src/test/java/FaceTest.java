@@ -6,6 +6,7 @@ import java.lang.reflect.Method;
 import java.lang.reflect.Modifier;
 import java.nio.file.Files;
 import java.nio.file.Path;
+import java.util.ArrayList;
 import java.util.Arrays;
 import java.util.List;
 import java.util.Set;
@@ -23,6 +24,11 @@ public final class FaceTest {
         "int wouldCut(int,int)", "int wouldMove(int,int,int)", "int pair(int,int,boolean)", "int keep(int)", "int goBack(int)");
     private static final Set<String> CONSTANTS = Set.of(
         "NONE=-1", "UNKNOWN=-1000000001", "OUTSIDE=-1000000002", "NOT=-1000000003", "FULL=-1000000004");
+    /** The calls in the document's order, each group behind its heading. */
+    private static final List<String> ORDER = List.of("TwoMasks", "// ---- shapes", "shape", "drop", "move", "cut", "heal", "bound",
+        "fix", "turn", "drift", "undo", "told", "ofShape", "ofPiece", "gap", "at", "// ---- asked", "judge", "wouldCut", "wouldMove",
+        "pair", "// ---- images", "keep", "goBack");
+    private static final int LONGEST_METHOD = 60;
     private static final List<String> BANNED_WORDS = List.of("throw", "throws", "try", "catch", "synchronized", "assert",
         "import", "package", "System.currentTimeMillis", "System.nanoTime", "Random", "Thread", "double", "float", "Exact");
 
@@ -107,10 +113,40 @@ public final class FaceTest {
         due("signs up to 127", text.chars().allMatch(c -> c < 128), true);
     }
 
+    private static void order() throws IOException {
+        Pattern wanted = Pattern.compile("^    public (?:int )?(\\w+)\\(.*\\{$|^    (// ---- (?:shapes|asked|images))$");
+        List<String> found = new ArrayList<>();
+        for (String line : Files.readAllLines(PROGRAM)) {
+            Matcher m = wanted.matcher(line);
+            if (m.matches()) {
+                found.add(m.group(1) != null ? m.group(1) : m.group(2));
+            }
+        }
+        due("the calls and their headings", found, ORDER);
+    }
+
+    /** A method begins with a line that ends in ") {", and ends with a "}" as far in as it began. */
+    private static void lengths() throws IOException {
+        Pattern head = Pattern.compile("^( {4}| {8})(?:public |private |static )*(?:(?!return)\\w[\\w\\[\\]]* )?\\w+\\([^()]*\\) \\{$");
+        List<String> lines = Files.readAllLines(PROGRAM);
+        int methods = 0;
+        for (int i = 0; i < lines.size(); i++) {
+            Matcher m = head.matcher(lines.get(i));
+            if (m.matches() && !lines.get(i).trim().matches("(if|for|while|switch) .*")) {
+                int end = i + lines.subList(i, lines.size()).indexOf(m.group(1) + "}");
+                methods++;
+                due(lines.get(i).trim() + " is short", end - i < LONGEST_METHOD, true);
+            }
+        }
+        due("most methods were seen", methods > 80, true);
+    }
+
     public static void main(String[] args) throws IOException, IllegalAccessException {
         face();
         inside();
         words();
+        order();
+        lengths();
         if (wrong != 0) {
             System.exit(1);
         }
